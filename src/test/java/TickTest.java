@@ -19,6 +19,7 @@ public final class TickTest {
         lengthOfWords();
         holdInward();
         holdOutward();
+        holdByAnyBoard();
         holdIsOff();
         wordsOfOneThatParts();
         wordLostAheadOfThePlug();
@@ -379,6 +380,16 @@ public final class TickTest {
         DUE.is("not hurt", x.count(11), 0);
         x.plug(2, 2, 1);
         DUE.is("held as it turns at 13", x.count(8), 1);
+    }
+
+    private static void holdByAnyBoard() {
+        PlugPins x = Due.withKnown(5);
+        for (int board = 0; board < 5; board++) {
+            DUE.is("nothing moves", x.count(8), 0);
+            x.pull(board, 1);
+            DUE.is("held by the board " + board, x.count(8), 1);
+            x.undo();
+        }
     }
 
     private static void holdIsOff() {

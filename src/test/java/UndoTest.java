@@ -7,6 +7,8 @@ public final class UndoTest {
         sixStates();
         whatStays();
         afterUndo();
+        afterUndoneText();
+        savedWithOtherBoards();
         noChangeRecords();
         saving();
         savedStays();
@@ -121,6 +123,55 @@ public final class UndoTest {
         for (int what = 0; what < due.length; what++) {
             DUE.is("it is new: of(2, " + what + ")", x.of(2, what), due[what]);
         }
+    }
+
+    /** A text takes a board and a word far in one change: nothing of them is left when it is undone. */
+    private static void afterUndoneText() {
+        String[] texts = {"b8.8;i2@2+1;t9", "b8.8;i2@2+24;t5", "b8.8;i2@2+24;t9;a2", "b8.8;i2@2+24;t9;o2-24;t1;i2@4+9"};
+        int[] due = {7, 9, -6, 0, 100, 0, 0, 0, 0, 0, 0};
+        for (String text : texts) {
+            PlugPins x = Due.withKnown(2);
+            Due.run(x, text);
+            x.undo();
+            DUE.is("no board in a slot", x.count(2), 3);
+            DUE.is("no power", x.count(9), 2);
+            DUE.is("nothing pulled too soon", x.count(12), 0);
+            DUE.is("a new board", x.board(7, 9), 2);
+            for (int what = 0; what < due.length; what++) {
+                DUE.is(text + " undone: of(2, " + what + ")", x.of(2, what), due[what]);
+            }
+        }
+        PlugPins y = Due.withKnown(2);
+        y.set(0, 0);
+        Due.run(y, "b8.8;w01;t1;i2@2+24;t1");
+        DUE.is("hurt", y.word(0, 3), 1);
+        y.undo();
+        DUE.is("a new word", y.send(1, 0), 0);
+        int[] word = {1, 0, 0, 0, 0};
+        for (int what = 0; what < word.length; what++) {
+            DUE.is("word(0, " + what + ")", y.word(0, what), word[what]);
+        }
+    }
+
+    /** The same numbers stand for other boards and words in the slot than in what it is restored to. */
+    private static void savedWithOtherBoards() {
+        PlugPins x = new PlugPins();
+        x.save(0);
+        x.board(10, 20);
+        x.board(11, 21);
+        Due.run(x, "i0@0+24;i1@1+24;t20;w10;t2");
+        x.save(1);
+        String before = Due.seen(x);
+        x.restore(0);
+        x.board(30, 40);
+        x.board(31, 41);
+        Due.run(x, "i0@3+24;i1@4+24;t20;w01;t9;w01;w01");
+        DUE.is("another word of it", x.of(0, 0), 30);
+        DUE.is("restore(1)", x.restore(1), 2);
+        DUE.same("what was saved", Due.seen(x), before);
+        DUE.is("its word", x.of(0, 0), 10);
+        DUE.is("its current", x.of(1, 1), 21);
+        DUE.is("sent by", x.word(0, 0), 1);
     }
 
     private static void noChangeRecords() {
