@@ -2,6 +2,8 @@
 final class Due {
     static final int[] ENDS = {Integer.MIN_VALUE, Integer.MIN_VALUE + 1, -1000, -1, 1000, 65536, Integer.MAX_VALUE - 1, Integer.MAX_VALUE};
 
+    private static final int LATEST_WORDS = 14;
+
     private final String test;
     private int checks;
     private int wrong;
@@ -69,7 +71,10 @@ final class Due {
         return x;
     }
 
-    /** All that can be seen of an object, but for its pad and how many changes can be undone. */
+    /**
+     * All that can be seen of an object, but for its pad and how many changes can be undone; of its words the latest
+     * ones alone, as an object is used for 512 calls at most.
+     */
     static String seen(PlugPins x) {
         StringBuilder all = new StringBuilder();
         for (int what = 0; what < 18; what++) {
@@ -86,7 +91,8 @@ final class Due {
             all.append(x.slot(slot)).append(' ');
         }
         all.append("|words ");
-        for (int word = 0; word < x.count(4); word++) {
+        int sent = x.count(4);
+        for (int word = Math.max(0, sent - LATEST_WORDS); word <= sent; word++) {
             for (int what = 0; what < 5; what++) {
                 all.append(x.word(word, what)).append(' ');
             }

@@ -1,16 +1,23 @@
 import java.util.Random;
 
-/** Runs of 512 random calls each: every answer is the model's, and what if is what comes to be. */
+/**
+ * Runs of random calls: every answer is the model's, and what if is what comes to be. No object is called more than
+ * 512 times, as what later calls answer is free.
+ */
 public final class RandomRunsTest {
     private static final Due DUE = new Due("RandomRunsTest");
     private static final int RUNS = 1500;
     private static final int CALLS = 512;
+    /** What one step and all that is looked at behind it take at most. */
+    private static final int CALLS_OF_STEP = 40;
+    private static final int CALLS_OF_WHOLE = 114;
     private static final String SIGNS = "biowat0123456789.@+-;";
 
     private final PlugPins real = new PlugPins();
     private final Model model = new Model();
     private final Random random;
     private final boolean isWild;
+    private int calls;
 
     private RandomRunsTest(long seed) {
         random = new Random(seed);
@@ -20,9 +27,9 @@ public final class RandomRunsTest {
     public static void main(String[] args) {
         for (int run = 0; run < RUNS; run++) {
             RandomRunsTest one = new RandomRunsTest(run);
-            for (int call = 0; call < CALLS; call++) {
-                String name = "run " + run + ", call " + call + ": ";
-                one.randomCall(name, one.random.nextInt(100));
+            int kept = run % 2 == 0 ? CALLS_OF_STEP : CALLS_OF_STEP + CALLS_OF_WHOLE;
+            while (one.calls < CALLS - kept) {
+                one.randomCall("run " + run + ", call " + one.calls + ": ", one.random.nextInt(100));
             }
             one.compareWhole("run " + run);
         }
@@ -53,6 +60,7 @@ public final class RandomRunsTest {
     }
 
     private void is(String name, int got, int want) {
+        calls++;
         DUE.is(name, got, want);
     }
 
@@ -184,49 +192,74 @@ public final class RandomRunsTest {
             } else {
                 is(run + "restore(" + slot + ")", real.restore(slot), model.restore(slot));
             }
-            compareWhole(run + "after it");
+            compareSome(run + "after it", 25);
         }
     }
 
+    private void compareSome(String run, int looks) {
+        for (int look = 0; look < looks; look++) {
+            int one = random.nextInt(8);
+            switch (random.nextInt(4)) {
+                case 0 -> compareCount(run, random.nextInt(20));
+                case 1 -> compareBoard(run, one, random.nextInt(11));
+                case 2 -> compareWord(run, Math.max(0, model.count(4) - one), random.nextInt(5));
+                default -> is(run + ": waiting(" + one + ")", real.waiting(one), model.waiting(one));
+            }
+        }
+    }
+
+    /** As much as can be looked at up to the last call. */
     private void compareWhole(String run) {
-        for (int what = 0; what < 20; what++) {
-            is(run + ": count(" + what + ")", real.count(what), model.count(what));
-        }
-        for (int board = 0; board < 8; board++) {
-            for (int what = 0; what < 11; what++) {
-                is(run + ": of(" + board + ", " + what + ")", real.of(board, what), model.of(board, what));
+        if (calls + CALLS_OF_WHOLE <= CALLS) {
+            for (int what = 0; what < 20; what++) {
+                compareCount(run, what);
             }
-        }
-        for (int slot = 0; slot < 5; slot++) {
-            is(run + ": slot(" + slot + ")", real.slot(slot), model.slot(slot));
-        }
-        for (int word = 0; word <= real.count(4); word++) {
-            for (int what = 0; what < 5; what++) {
-                is(run + ": word(" + word + ", " + what + ")", real.word(word, what), model.word(word, what));
+            for (int board = 0; board < 8; board++) {
+                for (int what = 0; what < 11; what++) {
+                    compareBoard(run, board, what);
+                }
             }
+            for (int slot = 0; slot < 5; slot++) {
+                is(run + ": slot(" + slot + ")", real.slot(slot), model.slot(slot));
+            }
+            is(run + ": fault()", real.fault(), model.fault());
         }
-        is(run + ": fault()", real.fault(), model.fault());
+        while (calls < CALLS) {
+            compareWord(run, random.nextInt(model.count(4) + 1), random.nextInt(5));
+        }
+    }
+
+    private void compareCount(String run, int what) {
+        is(run + ": count(" + what + ")", real.count(what), model.count(what));
+    }
+
+    private void compareBoard(String run, int board, int what) {
+        is(run + ": of(" + board + ", " + what + ")", real.of(board, what), model.of(board, what));
+    }
+
+    private void compareWord(String run, int word, int what) {
+        is(run + ": word(" + word + ", " + what + ")", real.word(word, what), model.word(word, what));
     }
 
     /** What knownIn(), quietIn() and wouldHurt() tell, held against what is so when the ticks pass. */
     private void foresee(String run) {
-        for (int call = 0; call < 200; call++) {
+        while (calls < CALLS / 3) {
             randomCall(run, random.nextInt(70));
         }
-        for (int call = 0; call < 40; call++) {
+        while (calls < CALLS - CALLS_OF_STEP) {
             randomCall(run, random.nextInt(70));
             int board = board();
-            int slot = slotOf(board);
-            int speed = pick(1, 24);
             foreseeKnown(run, board);
-            foreseeHurts(run, board, slot, speed);
+            foreseeHurts(run, board, slotOf(board), pick(1, 24));
             foreseeQuiet(run);
         }
     }
 
     private void foreseeKnown(String run, int board) {
+        calls++;
         int ticks = real.knownIn(board);
         if (ticks > 1 && ticks < 99) {
+            calls += 4;
             real.pass(ticks - 1);
             is(run + ": known one tick ahead", real.of(board, 6), 0);
             real.undo();
@@ -238,11 +271,13 @@ public final class RandomRunsTest {
     }
 
     private void foreseeHurts(String run, int board, int slot, int speed) {
+        calls += 3;
         int hurts = real.wouldHurt(board, slot, speed);
         int before = real.count(11);
         int answer = real.plug(board, slot, speed);
         is(run + ": errors as for plug()", Math.min(hurts, 0), Math.min(answer, 0));
         if (answer >= 0) {
+            calls += 3;
             is(run + ": as plugged already", real.wouldHurt(board, slot, speed), hurts);
             real.pass((24 - answer + speed - 1) / speed);
             is(run + ": it stands", real.of(board, 4), 100);
@@ -253,8 +288,10 @@ public final class RandomRunsTest {
     }
 
     private void foreseeQuiet(String run) {
+        calls++;
         int ticks = real.quietIn();
         if (ticks > 1 && ticks < 99) {
+            calls += 4;
             real.pass(ticks - 1);
             is(run + ": not quiet one tick ahead", real.quietIn(), 1);
             real.undo();
