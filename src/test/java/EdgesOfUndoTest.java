@@ -12,6 +12,7 @@ public final class EdgesOfUndoTest {
         undoAsThereIsNone();
         sixStatesAtMost();
         changesAndUndosInTurn();
+        eachChangeInAFullHistory();
         recordedAlsoIfNothingIsDifferent();
         errorsRecordNothing();
         otherCallsRecordNothing();
@@ -110,6 +111,33 @@ public final class EdgesOfUndoTest {
         }
         DUE.is("the setting", x.count(14), value[0]);
         DUE.is("changes", x.count(19), before.size());
+    }
+
+    /** "when one more is recorded, the oldest one is dropped", by each method that is a change. */
+    private static void eachChangeInAFullHistory() {
+        inAFullHistory("set()", x -> x.set(3, 9));
+        inAFullHistory("board()", x -> x.board(1, 1));
+        inAFullHistory("plug()", x -> x.plug(4, 4, 1));
+        inAFullHistory("pull()", x -> x.pull(1, 1));
+        inAFullHistory("ask()", x -> x.ask(0));
+        inAFullHistory("send()", x -> x.send(0, 1));
+        inAFullHistory("pass()", x -> x.pass(99));
+        inAFullHistory("carryOut()", x -> Due.run(x, "t9;b1.1"));
+        inAFullHistory("restore()", x -> x.restore(0));
+    }
+
+    private static void inAFullHistory(String name, ToIntFunction<PlugPins> call) {
+        PlugPins x = Edges.busy();
+        String before = Due.seen(x);
+        DUE.is("the history is full", x.count(19), 6);
+        DUE.is(name + " is no error", call.applyAsInt(x) < 0 ? 1 : 0, 0);
+        DUE.is("it is full with " + name, x.count(19), 6);
+        DUE.is("undo() of " + name, x.undo(), 5);
+        DUE.same("before " + name, Due.seen(x), before);
+        undone(x, 4);
+        DUE.is("the last one", x.undo(), 0);
+        DUE.is("the oldest one was dropped", x.undo(), -5);
+        DUE.is("the second one stays the first", x.count(4), 2);
     }
 
     /** "(also if nothing is different then)". */
